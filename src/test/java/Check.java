@@ -1,3 +1,5 @@
+import java.util.List;
+
 /** Counts the answers that are not as due; a test ends with exit code 1 if there was one. */
 final class Check {
     private int wrong = 0;
@@ -13,6 +15,14 @@ final class Check {
 
     void holds(String what, boolean true_) {
         due(what, true_ ? 1 : 0, 1);
+    }
+
+    void same(String what, List<Integer> got, List<Integer> want) {
+        asked++;
+        if (!got.equals(want)) {
+            wrong++;
+            System.out.println(what + ": " + got + ", due is " + want);
+        }
     }
 
     boolean clean() {
