@@ -154,6 +154,16 @@ public final class OrdersEdgesTest {
             C.due("promise 11: the first ends", x.planned(0, 1), 24);
             C.due("promise 11: dried " + row[0] + " hours", x.planned(1, 1), row[1]);
         }
+        // Behind bench 2 and ahead of bench 3: while book 0 dries, bench 2 is free for 1, bench 3 is not taken by it.
+        int[][] ends = {{1, 0, 36}, {2, 20, 36}, {2, 30, 36}, {2, 31, 36}, {2, 32, 37}, {3, 20, 55}, {4, 20, 55}};
+        for (int[] row : ends) {
+            Bindery x = books(2);
+            x.promise(0, 30, 35, 100);
+            x.hours(1, row[0], row[1]);
+            C.due("promise 11: in time", x.plan(3), 0);
+            C.due("promise 11: the first", x.planned(0, 0), 0);
+            C.due("promise 11: beside one that dries, bench " + row[0] + " for " + row[1], x.planned(1, 1), row[2]);
+        }
         // One at a time at each bench: the second waits for the first where that takes long.
         for (int bench = 0; bench < 5; bench++) {
             Bindery x = books(2);

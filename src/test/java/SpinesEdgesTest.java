@@ -199,6 +199,10 @@ public final class SpinesEdgesTest {
         C.due("promise 17: twenty words behind gaps", y.broken(20 * 5 + 19 * 3, 1), 0);
     }
 
+    /**
+     * 'Of several that with the fewest LINES' has no test by itself: up to 6 lines and W 400 a way with one line more
+     * than are needed always costs more than some way without it, so no text has two such ways that cost the same.
+     */
     private static void promise17LeastCost() {
         // All letters and the gap 1 wide: 'aaa bb cc ddddd' in lines of 6 costs 0 + 16 + 1 if the first is filled.
         Bindery x = FRESH.open();
@@ -208,6 +212,10 @@ public final class SpinesEdgesTest {
         Shops.write(x, "aaa bb cc ddddd");
         C.due("promise 17: costs least", x.broken(6, 6), 9 + 1 + 1);
         lines("promise 17: costs least", x, 1, 2, 1);
+        x.wipe();
+        Shops.write(x, "a b c");
+        C.due("promise 17: of two the fewest words in the first", x.broken(4, 2), 9 + 1);
+        lines("promise 17: of two the fewest words in the first", x, 1, 2);
         x.wipe();
         Shops.write(x, "a b c d e");
         C.due("promise 17: of several the fewest words in the first", x.broken(3, 3), 4);
@@ -296,7 +304,17 @@ public final class SpinesEdgesTest {
         for (int letter = 1; letter <= 26; letter++) {
             C.due("promise 19: each letter once", y.sharpen(letter), 1);
         }
-        // A letter that is used up does not hinder a text without letters from being NOT.
+        // A letter that is blunt does not hinder others, as long as it does not stand in the text.
+        Bindery blunt = FRESH.open();
+        Shops.write(blunt, "aa");
+        blunt.stamp();
+        blunt.last(1);
+        blunt.wipe();
+        Shops.write(blunt, "b");
+        C.due("promise 19: a is blunt, and not in the text", blunt.stamp(), 1);
+        Shops.write(blunt, "a");
+        C.due("promise 19: a is blunt, and in the text", blunt.stamp(), BLUNT);
+        // Nor does one that is used up hinder a text without letters from being NOT.
         Shop used = new Shop(C, z -> {
             Shops.write(z, "a");
             z.last(1);
